@@ -61,12 +61,14 @@ public final class StandInLan {
     private final Frame tape;
 
     public StandInLan() {
-        wire = new Wire();
-        tape = new Frame();
-        routers = new Router[ROUTERS];
+        Wire shared = new Wire();
+        Router[] all = new Router[ROUTERS];
         for (int r = 0; r < ROUTERS; r++) {
-            routers[r] = new Router(r, wire);
+            all[r] = new Router(r, shared);
         }
+        wire = shared;
+        routers = all;
+        tape = new Frame();
     }
 
     public void set(int r, int what, int v) throws IndexOutOfBoundsException, IllegalArgumentException {

@@ -52,11 +52,17 @@ public final class Promise01NewObjectTest {
         x.open(0, 1, 10, 10, 3);
         x.set(0, 9, 31);
         DUE.is("WEIGHED, for WEIGHT is 0", x.router(0, 2), 100);
-        StandInLan y = new StandInLan();
-        y.start(0);
-        y.open(0, 1, 10, 10, 3);
-        y.set(0, 8, 50);
-        DUE.is("WEIGHED, for TRACKED is 0", y.router(0, 2), 100);
+        for (int r = 0; r < 5; r++) {
+            StandInLan y = new StandInLan();
+            y.start(r);
+            for (int s = 0; s < 5; s++) {
+                if (s != r) {
+                    y.open(r, s, 10, 10, 3);
+                }
+            }
+            y.set(r, 8, 50);
+            DUE.is("WEIGHED of " + r + ", for TRACKED is 0", y.router(r, 2), 100);
+        }
     }
 
     private static void objectsShareNothing() {

@@ -7,6 +7,7 @@ public final class Promise14FlyingTest {
         anAnswerFindsRoom();
         arrivedOnesAreGone();
         othersFramesAreNotMinded();
+        activeOnesDoNotMindThemEither();
         DUE.end();
     }
 
@@ -93,5 +94,19 @@ public final class Promise14FlyingTest {
         x.set(1, 7, 1);
         x.tick(100);
         DUE.is("LOSS 1: what comes is heard", x.session(1, 0, 5), 99);
+    }
+
+    private static void activeOnesDoNotMindThemEither() {
+        StandInLan x = new StandInLan();
+        x.set(2, 0, 255);
+        x.start(2);
+        x.start(0);
+        x.open(0, 1, 1, 5, 1);
+        x.open(2, 0, 1000, 5, 1);
+        x.tick(100);
+        DUE.is("to whom", x.frame(0, -4), 1);
+        DUE.is("to which ports", x.frame(0, -6), 30);
+        x.tick(1);
+        DUE.is("an ACTIVE one has not heard what was for 1", x.session(2, 0, 2), 0);
     }
 }

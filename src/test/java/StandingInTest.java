@@ -8,6 +8,8 @@ public final class StandingInTest {
         intervalsAreKnown();
         activeOnesMindAdvertisements();
         sessionsWeigh();
+        eachBitIsARouter();
+        checksAreRightAtTheEdges();
         aStandInTakesOver();
         DUE.end();
     }
@@ -80,6 +82,9 @@ public final class StandingInTest {
         x.set(0, 4, -1);
         Tapes.advertise(x, 0, 100, 50, Integer.MAX_VALUE);
         DUE.is("its own ADDRESS has no sign either", x.router(0, 0), 2);
+        x.set(0, 4, 7);
+        Tapes.advertise(x, 0, 100, 50, 7);
+        DUE.is("the same ADDRESS is not above", x.router(0, 0), 2);
         x.set(0, 2, 0);
         Tapes.advertise(x, 0, 101, 50, 0);
         DUE.is("PREEMPT does not count for an ACTIVE one", x.router(0, 0), 1);
@@ -124,6 +129,43 @@ public final class StandingInTest {
         DUE.is("the WEIGHED priority is sent", x.frame(0, 2), 194);
         Tapes.advertise(x, 0, 195, 128, 1);
         DUE.is("an ACTIVE one gives way by its WEIGHED priority", x.router(0, 0), 1);
+    }
+
+    private static void eachBitIsARouter() {
+        for (int r = 0; r < 5; r++) {
+            StandInLan x = new StandInLan();
+            x.start(r);
+            x.set(r, 8, 20);
+            for (int s = 0; s < 5; s++) {
+                if (s != r) {
+                    x.open(r, s, 10, 10, 3);
+                }
+            }
+            for (int s = 0; s < 5; s++) {
+                x.set(r, 9, 1 << s);
+                DUE.is("WEIGHED of " + r + " by the session with " + s, x.router(r, 2), s == r ? 100 : 80);
+            }
+            x.set(r, 9, 31);
+            DUE.is("WEIGHED of " + r + " by all", x.router(r, 2), 20);
+        }
+    }
+
+    /** Round ADDRESS 58393 the sum without a CHECK passes 65535 and a number whose upper part changes. */
+    private static void checksAreRightAtTheEdges() {
+        for (int low = 58385; low < 58405; low++) {
+            for (int high : new int[] {0, 1, 65535}) {
+                StandInLan x = new StandInLan();
+                int address = high << 16 | low;
+                x.set(0, 0, 255);
+                x.set(0, 4, address);
+                x.start(0);
+                int[] row = Tapes.advertisement(1, 255, 100, Tapes.VIRTUAL, address);
+                DUE.frame(x, 0, new int[] {1, 1, 9, 15, 12, 30}, row);
+                x.start(1);
+                x.tick(1);
+                DUE.is("TAKEN by 1", x.router(1, 5), 1);
+            }
+        }
     }
 
     private static void aStandInTakesOver() {
