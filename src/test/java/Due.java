@@ -3,17 +3,27 @@ final class Due {
     private final String test;
     private int wrong;
     private int asked;
+    private String words = "";
 
     Due(String test) {
         this.test = test;
     }
 
+    /** The document's words that the answers from here on belong to; a wrong answer is told with them. */
+    void sentence(String quoted) {
+        words = " [" + quoted + "]";
+    }
+
     void is(String call, long got, long want) {
         asked++;
         if (got != want) {
-            wrong++;
-            System.out.println(test + ": " + call + " answered " + got + ", due is " + want);
+            tellWrong(call + " answered " + got + ", due is " + want);
         }
+    }
+
+    private void tellWrong(String what) {
+        wrong++;
+        System.out.println(test + words + ": " + what);
     }
 
     void yes(String call, boolean got) {
@@ -34,8 +44,7 @@ final class Due {
             got = e.getClass().getName();
         }
         if (!got.equals(want.getName())) {
-            wrong++;
-            System.out.println(test + ": " + call + " throws " + got + ", due is " + want.getName());
+            tellWrong(call + " throws " + got + ", due is " + want.getName());
         }
     }
 
@@ -73,6 +82,16 @@ final class Due {
             is("frame(" + k + ", " + i + ")", x.frame(k, i), bytes[i]);
         }
         is("frame(" + k + ", " + bytes.length + ")", x.frame(k, bytes.length), StandInLan.NONE);
+    }
+
+    /** Everything that can be asked of the two is answered alike. */
+    void same(String when, StandInLan x, StandInLan y) {
+        int[] got = Whole.answers(x);
+        int[] want = Whole.answers(y);
+        is("how much there is to ask " + when, got.length, want.length);
+        for (int i = 0; i < got.length && i < want.length; i++) {
+            is("answer " + i + " of all " + when, got[i], want[i]);
+        }
     }
 
     void end() {
