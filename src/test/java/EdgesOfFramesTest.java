@@ -24,6 +24,7 @@ public final class EdgesOfFramesTest {
         sixtyAreOnTheWayAndOneMoreIsLost();
         oneMoreThanSixtyStillTeachesTheSwitch();
         oneThatArrivesMakesRoom();
+        framesArriveOnceAndWhenDue();
         dueFramesArriveInTheOrderOfSending();
         oneFrameArrivesAtTheLeastPortFirst();
         framesPassRoutersThatAreOff();
@@ -403,6 +404,34 @@ public final class EdgesOfFramesTest {
         DUE.is("flying()", y.flying(), 0);
         y.ask(0);
         DUE.is("flying()", y.flying(), 1);
+    }
+
+    private static void framesArriveOnceAndWhenDue() {
+        DUE.sentence("Then the frames that are due arrive");
+        StandInLan x = new StandInLan();
+        x.start(1);
+        x.set(0, 0, 255);
+        x.set(2, 0, 255);
+        x.set(2, 6, 4);
+        x.start(0);
+        x.start(2);
+        // The advertisement of 0 arrives in tick 1, that of 2 in tick 4.
+        int[] taken = {1, 1, 1, 2, 2, 2};
+        for (int tick = 1; tick <= 6; tick++) {
+            x.tick(1);
+            DUE.is("taken in tick " + tick, x.router(1, 5), taken[tick - 1]);
+        }
+        // One question is due in tick 7, two more in tick 56.
+        x.set(1, 6, 50);
+        x.ask(1);
+        x.ask(1);
+        x.set(1, 6, 1);
+        x.ask(1);
+        DUE.is("sent by 0 before", x.router(0, 6), 2);
+        for (int tick = 7; tick <= 57; tick++) {
+            x.tick(1);
+            DUE.is("sent by 0 in tick " + tick, x.router(0, 6), tick < 56 ? 3 : 5);
+        }
     }
 
     private static void dueFramesArriveInTheOrderOfSending() {

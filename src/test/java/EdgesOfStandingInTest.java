@@ -28,6 +28,7 @@ public final class EdgesOfStandingInTest {
         activeComparesAddressesWithoutSigns();
         stoppedOnesSayGoodbyeIfActive();
         crashedOnesForget();
+        sessionsThatAreGoneDoNothing();
         askingHasNoPacket();
         announcementsAreNotAnswered();
         backupsDoNotAnswer();
@@ -466,6 +467,32 @@ public final class EdgesOfStandingInTest {
             DUE.router(x, 0, 1, 360, 100, 100, 0, 0, 0, 0);
             x.open(0, 1, 7, 8, 9);
             DUE.session(x, 0, 1, 1, 1, 0, 0, 100, 0, 7, 8, 0, 1, 0, 0);
+        }
+    }
+
+    private static void sessionsThatAreGoneDoNothing() {
+        DUE.sentence("all its timers, sessions .. are gone (of every router, with every other one)");
+        for (int r = 0; r < 5; r++) {
+            StandInLan x = new StandInLan();
+            x.set(r, 8, 20);
+            x.set(r, 9, 31);
+            x.start(r);
+            for (int s = 0; s < 5; s++) {
+                if (s != r) {
+                    x.open(r, s, 1, 1, 1);
+                }
+            }
+            DUE.is("WEIGHED before", x.router(r, 2), 20);
+            x.stop(r, r % 2 == 0);
+            x.start(r);
+            DUE.router(x, r, 1, 360, 100, 100, 0, 0, 0, 0);
+            for (int s = 0; s < 5; s++) {
+                DUE.is("session(" + r + ", " + s + ", 0)", x.session(r, s, 0), StandInLan.NONE);
+                Tapes.bytes(x, Tapes.packet(1, 32, 3, 9, 16 * r + s + 1, 1, 1));
+                DUE.no("a packet for the session with " + s, x.arrive(r, 2, s, 255, 0));
+            }
+            x.tick(359);
+            DUE.router(x, r, 1, 1, 100, 100, 0, 0, 0, 0);
         }
     }
 
