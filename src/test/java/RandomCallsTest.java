@@ -86,6 +86,10 @@ public final class RandomCallsTest {
         DUE.yes("flying() is 0 to 60", flying >= 0 && flying <= 60);
         for (int k = 0; k < flying; k++) {
             DUE.yes("frame(" + k + ", -1) is 1 to 50", x.frame(k, -1) >= 1 && x.frame(k, -1) <= 50);
+            int from = x.frame(k, -3);
+            int ports = x.frame(k, -6);
+            DUE.yes("frame(" + k + ", -6) are other ports", ports > 0 && ports < 31
+                && (from == 9 || (ports >> from & 1) == 0));
         }
         for (int r = 0; r < 5; r++) {
             boolean isOff = x.router(r, 0) == 0;
